@@ -196,7 +196,7 @@ public final class IndicatorDiagram {
             return INVALID_ARGUMENT;
         }
         trialEvents.copyShifted(now.valvesOf(end), shift);
-        if (!trialEvents.makeIdealCard()) {
+        if (!trialEvents.existAsIdealCard()) {
             return ILLEGAL_STATE;
         }
         if (now.count >= MOST_CARDS) {
@@ -485,8 +485,8 @@ public final class IndicatorDiagram {
         return value >= least && value <= most;
     }
 
-    // The only places that divide: a divisor of 0, which no state leads to,
-    // is looked for here instead of at every division.
+    // All divisors that are no constants come here, so that 0, which no state
+    // leads to, is looked for in one place.
     private static int quotient(int dividend, int divisor) {
         return divisor == 0 ? 0 : Math.floorDiv(dividend, divisor);
     }
@@ -794,7 +794,7 @@ public final class IndicatorDiagram {
             }
         }
 
-        boolean makeIdealCard() {
+        boolean existAsIdealCard() {
             return isWithin(admission, 0, 8) && isWithin(cutOff, 1, 19)
                     && isWithin(release, 2, 20) && isWithin(compression, 0, 19);
         }

@@ -177,6 +177,16 @@ public final class CardsTest {
         due.are("without a compression", Drawing.stroke(x, 3, 1),
                 "50 50 50 50 50 50 50 50 50 50 50 50 50 50 50 50 50 50 50 50 50");
         pressureThatRisesToTheBack();
+        leakThatMakesAWholeQuotient();
+    }
+
+    private static void leakThatMakesAWholeQuotient() {
+        IndicatorDiagram x = new IndicatorDiagram();
+        x.setBoilerPressure(100);
+        x.setClearance(8);
+        // 1600, more by 32, is just 96 times the volume of 17.
+        x.addIdealCard(0, 60, 0, 20);
+        due.is("pressure(0, 0, 9) with a leak of 20", x.pressure(0, 0, 9), 96);
     }
 
     private static void pressureThatRisesToTheBack() {
@@ -255,14 +265,6 @@ public final class CardsTest {
         return x;
     }
 
-    private static String speeds(IndicatorDiagram x) {
-        StringBuilder seen = new StringBuilder();
-        for (int card = 0; card < x.cardCount(); card++) {
-            seen.append(card == 0 ? "" : " ").append(x.speed(card));
-        }
-        return seen.toString();
-    }
-
     private static void removeCard() {
         due.promise(14);
         IndicatorDiagram x = new IndicatorDiagram();
@@ -272,22 +274,22 @@ public final class CardsTest {
         for (int wrong : wrongs) {
             due.is("removeCard(" + wrong + ")", x.removeCard(wrong), Due.INVALID);
         }
-        due.are("speeds after wrong calls", speeds(x), "10 11 12 13 14");
+        due.are("speeds after wrong calls", Drawing.speeds(x), "10 11 12 13 14");
         due.is("removeCard(1)", x.removeCard(1), 4);
-        due.are("speeds", speeds(x), "10 12 13 14");
+        due.are("speeds", Drawing.speeds(x), "10 12 13 14");
         due.is("removeCard(3), the last one", x.removeCard(3), 3);
-        due.are("speeds", speeds(x), "10 12 13");
+        due.are("speeds", Drawing.speeds(x), "10 12 13");
         due.is("removeCard(3), which was there", x.removeCard(3), Due.INVALID);
         due.is("removeCard(0)", x.removeCard(0), 2);
-        due.are("speeds", speeds(x), "12 13");
+        due.are("speeds", Drawing.speeds(x), "12 13");
         due.is("end(1)", x.end(1), 1);
         due.is("addIdealCard behind", x.addIdealCard(0, 99, 0, 0), 2);
         x.undo();
         x.undo();
-        due.are("speeds after undo", speeds(x), "10 12 13");
+        due.are("speeds after undo", Drawing.speeds(x), "10 12 13");
         x.undo();
         x.undo();
-        due.are("speeds after undo", speeds(x), "10 11 12 13 14");
+        due.are("speeds after undo", Drawing.speeds(x), "10 11 12 13 14");
     }
 
     private static void cardCount() {

@@ -43,6 +43,15 @@ final class Drawing {
         return seen.toString();
     }
 
+    /** The speeds of all cards, by which the tests tell cards apart. */
+    static String speeds(IndicatorDiagram x) {
+        StringBuilder seen = new StringBuilder();
+        for (int card = 0; card < x.cardCount(); card++) {
+            seen.append(card == 0 ? "" : " ").append(x.speed(card));
+        }
+        return seen.toString();
+    }
+
     /** What can be seen of an object by calls that change nothing; some 40 calls, and 45 for each card. */
     static String seen(IndicatorDiagram x) {
         StringBuilder seen = new StringBuilder();

@@ -55,6 +55,10 @@ public final class EndsTest {
         Drawing.add(x, 0, 600, ends, Drawing.level(8));
         due.is("meanArea(0): 76, 1 .. 1 and 151 less 4", x.meanArea(0), 72 + 147 - 19 * 2 * 3);
         due.is("meanArea(1) stays", x.meanArea(1), 22214);
+        x.removeCard(4);
+        due.is("meanArea(0) behind a removal at the end", x.meanArea(0), -40);
+        x.removeCard(1);
+        due.is("meanArea(0) of 2, 0 and 2, 8: 2 less 4", x.meanArea(0), -80);
     }
 
     private static void meanPower() {
@@ -74,6 +78,9 @@ public final class EndsTest {
         due.is("meanPower(0) of 1, 10, -20 and -2, rounded down", x.meanPower(0), -3);
         level(x, 0, 12, 1);
         due.is("meanPower(0) of 1, 10, -20, -2 and 12", x.meanPower(0), 0);
+        x.removeCard(5);
+        due.is("meanPower(0) behind a removal at the end", x.meanPower(0), -3);
+        x.undo();
         // Half of each power: 0, 5, -10, -1 and 6, each rounded down ahead of the sum.
         x.setPistonArea(0, 500);
         due.is("meanPower(0) with half the piston area", x.meanPower(0), 0);
@@ -103,17 +110,12 @@ public final class EndsTest {
         due.is("of 0 and 10", x.imbalance(), 1000);
         level(x, 1, 10, -1);
         due.is("of 0 and 0", x.imbalance(), Due.NONE);
+        level(x, 0, 40, 1);
+        due.is("of 10 and 0", x.imbalance(), 1000);
+        x.removeCard(x.cardCount() - 1);
         level(x, 1, 1, -1);
         due.is("of 0 and -1", x.imbalance(), Due.NONE);
         due.is("imbalance is no action", x.historySize(), 4);
-    }
-
-    private static String speeds(IndicatorDiagram x) {
-        StringBuilder seen = new StringBuilder();
-        for (int card = 0; card < x.cardCount(); card++) {
-            seen.append(card == 0 ? "" : " ").append(x.speed(card));
-        }
-        return seen.toString();
     }
 
     private static void outliersOfFive() {
@@ -127,13 +129,13 @@ public final class EndsTest {
         due.is("removeOutliers(0, 30)", x.removeOutliers(0, 30), 0);
         due.is("an action, also without outliers", x.undo(), 3);
         due.is("removeOutliers(0, 29)", x.removeOutliers(0, 29), 2);
-        due.are("speeds", speeds(x), "2 3 4 5");
+        due.are("speeds", Drawing.speeds(x), "2 3 4 5");
         due.is("undo()", x.undo(), 3);
-        due.are("speeds after the undo", speeds(x), "1 2 3 4 5 6");
+        due.are("speeds after the undo", Drawing.speeds(x), "1 2 3 4 5 6");
         due.is("removeOutliers(0, 10)", x.removeOutliers(0, 10), 3);
-        due.are("speeds", speeds(x), "2 3 4");
+        due.are("speeds", Drawing.speeds(x), "2 3 4");
         due.is("removeOutliers(0, 0): of 90 and 100 the median is 90", x.removeOutliers(0, 0), 1);
-        due.are("speeds", speeds(x), "3 4");
+        due.are("speeds", Drawing.speeds(x), "3 4");
         due.is("removeOutliers(1, 0)", x.removeOutliers(1, 0), 0);
     }
 
@@ -144,9 +146,9 @@ public final class EndsTest {
         level(x, 1, 3, 201);
         level(x, 1, 4, 0);
         due.is("removeOutliers(1, 100): of four the second is the median", x.removeOutliers(1, 100), 2);
-        due.are("speeds", speeds(x), "2 4");
+        due.are("speeds", Drawing.speeds(x), "2 4");
         due.is("removeOutliers(1, 100): the median is 0", x.removeOutliers(1, 100), 1);
-        due.are("speeds", speeds(x), "4");
+        due.are("speeds", Drawing.speeds(x), "4");
         for (int card = 1; card < 10; card++) {
             x.addIdealCard(1, 100 + card, 0, 0);
         }
@@ -162,7 +164,7 @@ public final class EndsTest {
         }
         // Sorted: -111, -110, -100, -90, -80, 100; the median is -100.
         due.is("removeOutliers(0, 10)", x.removeOutliers(0, 10), 3);
-        due.are("speeds", speeds(x), "1 3 4");
+        due.are("speeds", Drawing.speeds(x), "1 3 4");
     }
 
     private static void outliersRefused() {

@@ -43,6 +43,17 @@ public final class EventsTest {
         due.are("events with the greatest pressure last", events(x, 2), "20 20 20 0");
         Drawing.add(x, 0, 60, Drawing.with(Drawing.level(200), 20, 100), Drawing.level(0));
         due.are("events with a cut-off at the station 19", events(x, 3), "0 19 20 0");
+        extremesAtTheFirstStations();
+    }
+
+    private static void extremesAtTheFirstStations() {
+        IndicatorDiagram x = new IndicatorDiagram();
+        for (int s = 0; s <= 2; s++) {
+            Drawing.add(x, 0, 60, Drawing.with(Drawing.level(100), s, 200), Drawing.with(Drawing.level(100), s, 50));
+            due.is("admission with the greatest pressure at " + s, x.event(s, 0), s);
+            due.is("cut-off with the greatest pressure at " + s, x.event(s, 1), s);
+            due.is("compression with the least pressure at " + s, x.event(s, 3), 20);
+        }
     }
 
     private static void release() {

@@ -150,6 +150,18 @@ public final class IdealCardsTest {
     }
 
     private static void balancingCutOffOfEqualPowers() {
+        for (int length = 1; length <= 40; length++) {
+            IndicatorDiagram x = new IndicatorDiagram();
+            x.setPistonArea(0, 2);
+            x.setPistonArea(1, 3);
+            x.setStroke(length);
+            int want = balancing(x, SETTINGS[0]);
+            due.is("balancingCutOff() with small powers and the length " + length, x.balancingCutOff(), want);
+        }
+        balancingCutOffAtItsEdges();
+    }
+
+    private static void balancingCutOffAtItsEdges() {
         IndicatorDiagram x = new IndicatorDiagram();
         x.setPistonArea(0, 1);
         x.setPistonArea(1, 1);
