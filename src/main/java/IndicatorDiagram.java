@@ -406,7 +406,7 @@ public final class IndicatorDiagram {
     }
 
     public int balancingCutOff() {
-        long wanted = powerWithCutOff(HEAD, now.headValves.cutOff);
+        long wanted = powerFrom(areaWithCutOff(HEAD, now.headValves.cutOff), HEAD, BALANCING_SPEED);
         return nearestCutOff(CRANK, wanted, true);
     }
 
@@ -591,7 +591,8 @@ public final class IndicatorDiagram {
         long least = Long.MAX_VALUE;
         for (int cutOff = LEAST_CUT_OFF; cutOff <= MOST_CUT_OFF; cutOff++) {
             if (cutOff > valves.admission && cutOff < valves.release) {
-                long reached = isPower ? powerWithCutOff(end, cutOff) : areaWithCutOff(end, cutOff);
+                int area = areaWithCutOff(end, cutOff);
+                long reached = isPower ? powerFrom(area, end, BALANCING_SPEED) : area;
                 long distance = Math.abs(reached - wanted);
                 if (distance < least) {
                     least = distance;
@@ -600,10 +601,6 @@ public final class IndicatorDiagram {
             }
         }
         return best;
-    }
-
-    private long powerWithCutOff(int end, int cutOff) {
-        return powerFrom(areaWithCutOff(end, cutOff), end, BALANCING_SPEED);
     }
 
     // ---- power

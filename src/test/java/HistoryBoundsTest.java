@@ -112,7 +112,7 @@ public final class HistoryBoundsTest {
         records("removeOutliers(1, 0)", oneCard, x -> x.removeOutliers(1, 0), 0);
     }
 
-    /** What the document calls an action, each with a change to the object of Stand.DRAWING. */
+    /** What the document calls an action, with arguments at their bounds. */
     private static long act(IndicatorDiagram x, int action) {
         switch (action) {
             case 0: return x.setClearance(20);
@@ -134,27 +134,46 @@ public final class HistoryBoundsTest {
         }
     }
 
+    /** Three actions and no undo, so that a fourth one drops no state. */
+    private static IndicatorDiagram withCards() {
+        IndicatorDiagram x = new IndicatorDiagram();
+        x.addIdealCard(0, 100, 2, 3);
+        x.setValves(0, 1, 7, 17, 5);
+        x.setValves(1, 2, 6, 16, 3);
+        return x;
+    }
+
+    /** The same with a draft that could be finished. */
+    private static IndicatorDiagram withADraft() {
+        IndicatorDiagram x = new IndicatorDiagram();
+        x.beginCard(1, 130);
+        x.setPoint(0, 4, 900);
+        x.setPoint(1, 3, 88);
+        return x;
+    }
+
     private static void everythingButTheHistory() {
         due.sentence("a state is everything but the history.");
         for (int action = 0; action <= 15; action++) {
-            int a = action;
-            due.is("the action " + a + " is not refused", act(Stand.DRAWING.make(), a) >= 0 ? 1 : 0, 1);
-            // Two undone ahead of it, so that no state is dropped.
-            Supplier<IndicatorDiagram> make = () -> {
-                IndicatorDiagram x = Stand.DRAWING.make();
-                x.undo();
-                x.undo();
-                x.setPoint(1, 9, 99);
-                return x;
-            };
-            IndicatorDiagram x = make.get();
-            act(x, a);
-            due.is("undo() of the action " + a, x.undo(), 3);
-            afterwards.unchanged(make, "the action " + a + " and its undo", y -> {
-                act(y, a);
-                return y.undo();
-            });
+            boolean needsADraft = action == 10 || action == 11 || action == 12;
+            boolean needsACard = action == 14 || action == 15;
+            if (!needsADraft) {
+                undone(HistoryBoundsTest::withCards, action);
+            }
+            if (!needsACard) {
+                undone(HistoryBoundsTest::withADraft, action);
+            }
         }
+    }
+
+    private static void undone(Supplier<IndicatorDiagram> make, int action) {
+        IndicatorDiagram x = make.get();
+        due.is("the action " + action + " is not refused", act(x, action) >= 0 ? 1 : 0, 1);
+        due.is("undo() of the action " + action, x.undo(), 3);
+        afterwards.unchanged(make, "the action " + action + " and its undo", y -> {
+            act(y, action);
+            return y.undo();
+        });
     }
 
     private static void historySize() {
